@@ -40,8 +40,8 @@ public final class ModelRunsTest {
                 case 0, 1, 2 -> makeSample();
                 case 3, 4 -> {
                     int d = number();
-                    int n = random.nextInt(8) == 0 ? random.nextInt(12) - 1 : 3 + random.nextInt(6);
-                    int bound = random.nextInt(8) == 0 ? random.nextInt(84) - 2 : 20 + random.nextInt(61);
+                    int n = random.nextInt(8) == 0 ? oddOr(random.nextInt(12) - 1) : 3 + random.nextInt(6);
+                    int bound = random.nextInt(8) == 0 ? oddOr(random.nextInt(84) - 2) : 20 + random.nextInt(61);
                     train(d, id(), n, bound);
                     lookAt(d);
                 }
@@ -61,13 +61,20 @@ public final class ModelRunsTest {
                 case 11 -> openNoise();
                 case 12 -> sometimesForgetOrDrop();
                 case 13 -> {
-                    int s = random.nextInt(10) - 1;
+                    int s = oddOr(random.nextInt(10) - 1);
                     int d = number();
                     ask("size(" + s + ", " + d + ")", () -> real.size(s, d), () -> model.size(s, d));
                     ask("best(" + s + ")", () -> real.best(s), () -> model.best(s));
                 }
                 case 14 -> {
                     int d = number();
+                    int i = oddOr(0);
+                    ask("content(" + d + ", " + i + ")", () -> real.content(d, i), () -> model.content(d, i));
+                    ask("told(" + d + ", " + i + ")", () -> real.told(d, i), () -> model.told(d, i));
+                    ask("out(" + i + ")", () -> real.out(i), () -> model.out(i));
+                    ask("text(" + i + ")", () -> real.text(i), () -> model.text(i));
+                    ask("about(" + i + ")", () -> real.about(i), () -> model.about(i));
+                    ask("feed(" + (i - 8) + ", 0)", () -> real.feed(i - 8, 0), () -> model.feed(i - 8, 0));
                     ask("share(" + d + ")", () -> real.share(d), () -> model.share(d));
                 }
                 default -> {
@@ -209,10 +216,16 @@ public final class ModelRunsTest {
     }
 
     private int number() {
-        return random.nextInt(12) == 0 ? random.nextInt(12) - 3 : random.nextInt(4) - 1;
+        return random.nextInt(12) == 0 ? oddOr(random.nextInt(12) - 3) : random.nextInt(4) - 1;
     }
 
     private int id() {
-        return random.nextInt(10) == 0 ? random.nextInt(270) - 5 : 1 + random.nextInt(3);
+        return random.nextInt(10) == 0 ? oddOr(random.nextInt(270) - 5) : 1 + random.nextInt(3);
+    }
+
+    /** Now and then a number far from all that is meant. */
+    private int oddOr(int value) {
+        int[] odd = {Integer.MIN_VALUE, Integer.MAX_VALUE, Integer.MIN_VALUE + 9, 1 << 30, -256};
+        return random.nextInt(4) == 0 ? odd[random.nextInt(odd.length)] : value;
     }
 }
