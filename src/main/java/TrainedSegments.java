@@ -87,9 +87,10 @@ public final class TrainedSegments {
         }
         trainer.load(samples, sampleCount, n);
         trainer.takeRows(bound);
-        dictionaries[dictionary].begin(id);
-        trainer.handOver(dictionaries[dictionary]);
-        return dictionaries[dictionary].pieces();
+        Dictionary trained = dictionaries[dictionary];
+        trained.begin(id, n);
+        trainer.handOver(trained);
+        return trained.pieces();
     }
 
     public int give(int dictionary, int id) {
@@ -100,8 +101,8 @@ public final class TrainedSegments {
             return OUTSIDE;
         }
         Dictionary given = dictionaries[dictionary];
-        given.begin(id);
-        given.addPiece(tape, 0, tape.length());
+        given.begin(id, tape.length());
+        given.addPiece(tape, 0);
         tape.clear();
         return given.words().length();
     }
@@ -123,7 +124,7 @@ public final class TrainedSegments {
             return UNKNOWN;
         }
         int had = dropped.pieces();
-        dropped.begin(0);
+        dropped.begin(0, 0);
         return had;
     }
 
@@ -143,7 +144,7 @@ public final class TrainedSegments {
                 return asked.sum();
             default:
                 return what >= FIRST_PIECE && what - FIRST_PIECE < asked.pieces()
-                        ? asked.pieceLength(what - FIRST_PIECE) : OUTSIDE;
+                        ? asked.pieceLength() : OUTSIDE;
         }
     }
 
@@ -407,10 +408,13 @@ public final class TrainedSegments {
         }
     }
 
-    /** An ID and pieces; with ID 0 it is not there, or stands for packing by none. */
+    /**
+     * An ID and pieces; with ID 0 it is not there, or stands for packing by none. Its pieces are equally long, as
+     * training takes rows of one length and giving makes a single piece.
+     */
     private static final class Dictionary {
         private final Row words = new Row(DICTIONARY_BYTES);
-        private final int[] pieceLengths = new int[PIECE_LIMIT];
+        private int pieceLength;
         private int pieces;
         private int id;
 
@@ -433,50 +437,38 @@ public final class TrainedSegments {
             return pieces;
         }
 
-        int pieceLength(int piece) {
-            return piece >= 0 && piece < pieces ? pieceLengths[piece] : 0;
+        int pieceLength() {
+            return pieceLength;
         }
 
         int sum() {
             return id == 0 ? 0 : words.sum();
         }
 
-        void begin(int newId) {
+        void begin(int newId, int newPieceLength) {
             id = newId;
+            pieceLength = newPieceLength;
             pieces = 0;
             words.clear();
         }
 
-        void addPiece(Row source, int from, int n) {
-            if (n > 0 && pieces < PIECE_LIMIT && words.hasRoom(n)) {
-                words.addFrom(source, from, n);
-                pieceLengths[pieces] = n;
+        void addPiece(Row source, int from) {
+            if (pieceLength > 0 && words.hasRoom(pieceLength)) {
+                words.addFrom(source, from, pieceLength);
                 pieces++;
             }
         }
 
         void copyWithout(int piece, Row target) {
             target.become(words);
-            target.cutOut(startOf(piece), pieceLength(piece));
+            target.cutOut(piece * pieceLength, pieceLength);
         }
 
         void removePiece(int piece) {
-            if (piece < 0 || piece >= pieces) {
-                return;
+            if (piece >= 0 && piece < pieces) {
+                words.cutOut(piece * pieceLength, pieceLength);
+                pieces--;
             }
-            words.cutOut(startOf(piece), pieceLengths[piece]);
-            for (int i = piece + 1; i < pieces; i++) {
-                pieceLengths[i - 1] = pieceLengths[i];
-            }
-            pieces--;
-        }
-
-        private int startOf(int piece) {
-            int start = 0;
-            for (int i = 0; i < piece; i++) {
-                start += pieceLength(i);
-            }
-            return start;
         }
     }
 
@@ -511,7 +503,7 @@ public final class TrainedSegments {
         }
 
         void takeRows(int bound) {
-            for (int i = 0; i < PIECE_LIMIT && (i + 1) * n <= bound; i++) {
+            while (takenCount < PIECE_LIMIT && (takenCount + 1) * n <= bound) {
                 countRows();
                 int best = placeOfMost();
                 if (best == NO_ROW || (n - 2) * count[kind[best]] - (n + 1) <= 0) {
@@ -525,7 +517,7 @@ public final class TrainedSegments {
 
         void handOver(Dictionary target) {
             for (int i = takenCount - 1; i >= 0; i--) {
-                target.addPiece(places, taken[i], n);
+                target.addPiece(places, taken[i]);
             }
         }
 

@@ -16,6 +16,7 @@ public final class PromiseTest {
         t.forget();
         t.trainTakes();
         t.trainCounts();
+        t.trainFillsADictionary();
         t.trainRefuses();
         t.give();
         t.trim();
@@ -161,6 +162,27 @@ public final class PromiseTest {
         check.due("5 " + text + " by " + n, x.train(0, 1, n, 80), pieces);
     }
 
+    private void trainFillsADictionary() {
+        TrainedSegments x = new TrainedSegments();
+        int rows = 0;
+        for (int s = 0; s < 8; s++) {
+            for (int i = 0; i < 10; i++, rows++) {
+                // each row three times, so that each has a gain of 1
+                int k = rows / 3 * 4;
+                x.feed(4, (long) k << 24 | k + 1 << 16 | k + 2 << 8 | k + 3);
+            }
+            x.sample();
+        }
+        check.due("5 20 pieces of 4", x.train(0, 1, 4, 80), 20);
+        for (int i = 0; i < 80; i++) {
+            check.due("5 byte " + i, x.content(0, i), (byte) ((19 - i / 4) * 4 + i % 4));
+        }
+        check.due("5 the last piece", x.told(0, 29), 4);
+        check.due("5 no piece 20", x.told(0, 30), OUTSIDE);
+        check.due("5 19 pieces", x.train(0, 1, 4, 79), 19);
+        check.due("5 the tape", x.about(0), 0);
+    }
+
     private void trainRefuses() {
         TrainedSegments x = new TrainedSegments();
         check.due("5 UNKNOWN first", x.train(6, 0, 1, 81), UNKNOWN);
@@ -247,6 +269,15 @@ public final class PromiseTest {
         samples(x, "abc");
         check.due("7 one goes, the other is wanted then", x.trim(0), 1);
         dictionary("7 left", x, 0, "3abc4");
+        x.forget();
+        samples(x, "wxyzwxyzwxyzwxyzwxyzwxyz", "efghefghefghefghefgh", "mnopmnopmnopmnop", "abcdabcdabcd");
+        check.due("7 four taken", x.train(0, 1, 4, 80), 4);
+        dictionary("7 four", x, 0, "abcdmnopefghwxyz");
+        x.forget();
+        samples(x, "abcdefgh", "abcdefgh", "wxyz");
+        // 22 bytes with all, 18 without mnop; without wxyz 21, which is more than 18
+        check.due("7 fewer bytes are the measure from then on", x.trim(0), 1);
+        dictionary("7 three", x, 0, "abcdefghwxyz");
     }
 
     private void drop() {
