@@ -12,7 +12,7 @@ import java.util.TreeSet;
 import java.util.regex.Matcher;
 import java.util.regex.Pattern;
 
-/** The public face is the document's and nothing more, and the source keeps to LANGUAGE.md where that can be read off. */
+/** The public face is the document's alone, and the source keeps to LANGUAGE.md where that can be read off. */
 public final class FaceTest {
     private static final String[] METHODS = {
         "int feed(int,long)", "int sample()", "int forget()", "int train(int,int,int,int)", "int give(int,int)",

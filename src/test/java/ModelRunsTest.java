@@ -149,7 +149,8 @@ public final class ModelRunsTest {
     private void openNoise() {
         byte[] noise = new byte[random.nextInt(16)];
         for (int i = 0; i < noise.length; i++) {
-            noise[i] = (byte) (i < 3 ? 0 : i == 3 ? random.nextInt(20) : random.nextInt(random.nextBoolean() ? 5 : 256));
+            int behindHeader = random.nextInt(random.nextBoolean() ? 5 : 256);
+            noise[i] = (byte) (i < 3 ? 0 : i == 3 ? random.nextInt(20) : behindHeader);
         }
         write(noise);
         openAndLook();

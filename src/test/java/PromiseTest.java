@@ -1,4 +1,4 @@
-/** For each promise: ordinary inputs, the edges that the document names, and wrong inputs; answers worked out by hand. */
+/** For each promise: ordinary inputs, edges that the document names, and wrong inputs; answers worked out by hand. */
 public final class PromiseTest {
     private static final int UNKNOWN = -101;
     private static final int OUTSIDE = -102;
@@ -130,6 +130,10 @@ public final class PromiseTest {
         samples(x, "abcdeabcdeabcde");
         x.train(0, 1, 4, 80);
         dictionary("5 covered places count no more", x, 0, "abcd");
+        x.forget();
+        samples(x, "PQRSabcPQRSPQRSPQRSPQRS", "wxyzwxyzwxyz", "Sabc.Sabc,Sabc");
+        x.train(0, 1, 4, 80);
+        dictionary("5 where a place is covered no row stands first", x, 0, "SabcwxyzPQRS");
     }
 
     private void trainCounts() {
@@ -357,7 +361,8 @@ public final class PromiseTest {
     private void packPrefers() {
         TrainedSegments x = new TrainedSegments();
         // 8 bytes as they are cost 9, and so do 4, a match of 3 and 1 more
-        packed("11 of bytes as they are the most", x, "abcdabce", -1, 0, 0, 0, 8, 7, 'a', 'b', 'c', 'd', 'a', 'b', 'c', 'e');
+        packed("11 of bytes as they are the most", x, "abcdabce", -1,
+                0, 0, 0, 8, 7, 'a', 'b', 'c', 'd', 'a', 'b', 'c', 'e');
         write(x, "Xababcdefghi");
         x.give(0, 1);
         int[] head = {1, x.told(0, 3) / 256, x.told(0, 3) % 256, 10};
