@@ -1,18 +1,21 @@
-/** Counts wrong answers and prints each of them. */
+/** Counts wrong answers and prints each of them, with the sentence of the document that it breaks. */
 final class Check {
+    private String sentence = "";
     private int wrong;
 
+    /** From here on the answers are due by this sentence. */
+    void says(String words) {
+        sentence = "\"" + words + "\": ";
+    }
+
     void due(String what, long got, long want) {
-        if (got != want) {
-            wrong++;
-            System.out.println(what + ": answered " + got + ", due is " + want);
-        }
+        due(what, Long.toString(got), Long.toString(want));
     }
 
     void due(String what, String got, String want) {
         if (!got.equals(want)) {
             wrong++;
-            System.out.println(what + ": answered " + got + ", due is " + want);
+            System.out.println(sentence + what + ": answered " + got + ", due is " + want);
         }
     }
 

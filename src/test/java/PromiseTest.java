@@ -1,13 +1,5 @@
 /** For each promise: ordinary inputs, edges that the document names, and wrong inputs; answers worked out by hand. */
-public final class PromiseTest {
-    private static final int UNKNOWN = -101;
-    private static final int OUTSIDE = -102;
-    private static final int FULL = -103;
-    private static final int STATE = -104;
-    private static final String INDEX = "throws.ArrayIndexOutOfBoundsException";
-
-    private final Check check = new Check();
-
+public final class PromiseTest extends Bench {
     public static void main(String[] args) {
         PromiseTest t = new PromiseTest();
         t.newObject();
@@ -564,48 +556,5 @@ public final class PromiseTest {
         x.pack(5);
         check.due("18 no items", x.about(5), 0);
         check.due("18 no matches", x.about(6), 0);
-    }
-
-    /** Feeds n bytes 0, 1, 2 and so on, no two of them the same for up to 256. */
-    private static void fill(TrainedSegments x, int n) {
-        for (int i = 0; i < n; i++) {
-            x.feed(1, i);
-        }
-    }
-
-    private static void write(TrainedSegments x, String text) {
-        for (char c : text.toCharArray()) {
-            x.feed(1, c);
-        }
-    }
-
-    private static void samples(TrainedSegments x, String... texts) {
-        for (String text : texts) {
-            write(x, text);
-            x.sample();
-        }
-    }
-
-    private void dictionary(String what, TrainedSegments x, int d, String due) {
-        StringBuilder got = new StringBuilder();
-        for (int i = 0; i < x.told(d, 2); i++) {
-            got.append((char) x.content(d, i));
-        }
-        check.due(what, got.toString(), due);
-    }
-
-    private void packed(String what, TrainedSegments x, String text, int d, int... due) {
-        write(x, text);
-        check.due(what, x.pack(d), due.length);
-        for (int i = 0; i < due.length && i < x.about(3); i++) {
-            check.due(what + ", byte " + i, x.out(i), due[i]);
-        }
-    }
-
-    private void opened(String what, TrainedSegments x, int due, int... packed) {
-        for (int b : packed) {
-            x.feed(1, b);
-        }
-        check.due(what, x.open(), due);
     }
 }
