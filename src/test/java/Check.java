@@ -19,17 +19,24 @@ final class Check {
         }
     }
 
-    /** What a call answers, or which exception it throws. */
     interface Call {
         long answer();
     }
 
+    /** What a call answers, or which exception it throws, and whether it was the machine that threw it. */
     static String told(Call call) {
         try {
             return Long.toString(call.answer());
         } catch (RuntimeException e) {
-            return "throws." + e.getClass().getSimpleName();
+            return (isByTheMachine(e) ? "the machine " : "") + "throws." + e.getClass().getSimpleName();
         }
+    }
+
+    /** By its words: the machine tells indices and references so, and leaves the trace out when it is in a hurry. */
+    private static boolean isByTheMachine(RuntimeException e) {
+        String words = e.getMessage() == null ? "" : e.getMessage();
+        return e.getStackTrace().length == 0 || words.startsWith("Index ") || words.startsWith("Cannot ")
+                || words.equals("/ by zero");
     }
 
     void end(String name) {

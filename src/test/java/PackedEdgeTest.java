@@ -63,6 +63,11 @@ public final class PackedEdgeTest extends Bench {
         give(x, 0, 255, "abc");
         packed("by none", x, "", NONE, 0, 0, 0, 0);
         packed("by 255", x, "", 0, 255, ABC_HIGH, ABC_LOW, 0);
+        for (int d = 1; d <= 5; d++) {
+            x.give(d, d);
+        }
+        packed("by none, when all are there", x, "a", NONE, 0, 0, 0, 1, 0, 'a');
+        opened("opened by none, when all are there", x, 1, 0, 0, 0, 1, 0, 'a');
     }
 
     private void sumByNone() {
@@ -412,6 +417,11 @@ public final class PackedEdgeTest extends Bench {
         opened("all of them", x, 9, whole);
         textIs("the text", x, "abchijabc");
         opened("and one more", x, -200 - whole.length, Arrays.copyOf(whole, whole.length + 1));
+        int[] plainAtLast = {0, 0, 0, 4, 0, 'a', 2, 'b', 'c', 'd'};
+        for (int n = 0; n < plainAtLast.length; n++) {
+            opened("bytes as they are at last: " + n, x, -200 - n, Arrays.copyOf(plainAtLast, n));
+        }
+        opened("all of these", x, 4, plainAtLast);
         int[] full = new int[200];
         full[3] = 200;
         feedAll(x, full);

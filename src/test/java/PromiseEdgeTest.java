@@ -13,6 +13,7 @@ public final class PromiseEdgeTest extends Bench {
         t.sampleOutside();
         t.sampleFull();
         t.forgetAll();
+        t.forgottenCountNoMore();
         t.forgetNone();
         t.trainInPlaceOfWhatWas();
         t.trainUnknown();
@@ -180,6 +181,23 @@ public final class PromiseEdgeTest extends Bench {
         check.due("the first is 0", x.sample(), 0);
         check.due("left, not what was", x.size(0, NONE), 4 + 1 + 4);
         check.due("no sample 1", x.best(1), UNKNOWN);
+    }
+
+    private void forgottenCountNoMore() {
+        check.says("There are no SAMPLES");
+        TrainedSegments x = new TrainedSegments();
+        samples(x, "abcdabcd", "abcdabcd", "abcdabcd");
+        x.forget();
+        samples(x, "abcd");
+        check.due("by training", x.train(0, 1, 4, 80), 0);
+        samples(x, "abcd");
+        check.due("by training with two", x.train(0, 1, 4, 80), 0);
+        give(x, 0, 1, "abcd");
+        check.due("3 of 9, twice", x.share(0), 333);
+        x.forget();
+        samples(x, "q");
+        check.due("0 of 6", x.share(0), 0);
+        check.due("by trimming", x.trim(0), 1);
     }
 
     private void forgetNone() {
@@ -415,7 +433,7 @@ public final class PromiseEdgeTest extends Bench {
             changesNothing("number " + d, Bench::furnish, x -> x.content(d, 0), INDEX);
             changesNothing("number " + d + ", byte -1", Bench::furnish, x -> x.content(d, -1), INDEX);
         }
-        for (int i : new int[] {-1, 8, 80, Integer.MIN_VALUE, Integer.MAX_VALUE}) {
+        for (int i : new int[] {-1, 8, 9, 79, 80, Integer.MIN_VALUE, Integer.MAX_VALUE}) {
             changesNothing("byte " + i, Bench::furnish, x -> x.content(2, i), INDEX);
         }
         changesNothing("no bytes", x -> x.give(0, 1), x -> x.content(0, 0), INDEX);
@@ -460,7 +478,7 @@ public final class PromiseEdgeTest extends Bench {
 
     private void outOutOfBounds() {
         check.says("out: ArrayIndexOutOfBoundsException.");
-        for (int i : new int[] {-1, 10, 211, Integer.MIN_VALUE, Integer.MAX_VALUE}) {
+        for (int i : new int[] {-1, 10, 11, 210, 211, Integer.MIN_VALUE, Integer.MAX_VALUE}) {
             changesNothing("byte " + i, Bench::furnish, x -> x.out(i), INDEX);
         }
         TrainedSegments x = new TrainedSegments();
@@ -516,7 +534,7 @@ public final class PromiseEdgeTest extends Bench {
 
     private void textOutOfBounds() {
         check.says("text: ArrayIndexOutOfBoundsException.");
-        for (int i : new int[] {-1, 2, 200, Integer.MIN_VALUE, Integer.MAX_VALUE}) {
+        for (int i : new int[] {-1, 2, 3, 199, 200, Integer.MIN_VALUE, Integer.MAX_VALUE}) {
             changesNothing("byte " + i, Bench::furnish, x -> x.text(i), INDEX);
         }
         TrainedSegments x = new TrainedSegments();
@@ -556,6 +574,8 @@ public final class PromiseEdgeTest extends Bench {
         check.due("of two the first", x.best(0), 3);
         give(x, 0, 1, "abc");
         check.due("not the first that helps", x.best(0), 3);
+        give(x, 4, 1, "abc");
+        check.due("nor a later one that helps less", x.best(0), 3);
         give(x, 0, 1, "abcdefg");
         check.due("the first dictionary", x.best(0), 0);
         x.drop(0);

@@ -13,6 +13,7 @@ public final class TermsEdgeTest extends Bench {
         t.dictionariesNotThereAtFirst();
         t.idsOf1To255();
         t.eightyBytesTogether();
+        t.mostPiecesOfThree();
         t.perhapsNoPieces();
         t.sumOfNothing();
         t.sumGoesRoundAt251();
@@ -33,6 +34,7 @@ public final class TermsEdgeTest extends Bench {
         t.trimmingNotMoreBytes();
         t.trimmingFromTheFirstOn();
         t.trimmingByWhatIsLeft();
+        t.trimmingMeasuresAnew();
         t.trimmingAllOrNone();
         t.check.end("TermsEdgeTest");
     }
@@ -186,6 +188,16 @@ public final class TermsEdgeTest extends Bench {
             check.due("pieces of " + d[0], y.train(0, 1, d[0], 80), d[2]);
             check.due("bytes by " + d[0], y.told(0, 2), d[0] * d[2]);
         }
+    }
+
+    private void mostPiecesOfThree() {
+        check.says("PIECES one behind the other, 80 bytes at most together");
+        TrainedSegments x = new TrainedSegments();
+        // 13 rows of three go into a sample, so 104 in all, and to gain, each must be there five times
+        rowsOf(x, 3, 5, 20);
+        check.due("pieces", x.train(0, 1, 3, 80), 20);
+        check.due("bytes", x.told(0, 2), 60);
+        check.due("the last piece", x.told(0, 29), 3);
     }
 
     /** Samples with so many rows of n bytes, each of them so many times; no byte is in two rows. */
@@ -474,6 +486,19 @@ public final class TermsEdgeTest extends Bench {
         check.due("the one between goes", x.trim(0), 1);
         dictionary("those beside it stay", x, 0, "abcdijkl");
         check.due("dijkl is one match then", x.size(1, 0), 6);
+    }
+
+    private void trimmingMeasuresAnew() {
+        check.says("not more bytes than with it");
+        TrainedSegments x = new TrainedSegments();
+        samples(x, "wxyzwxyzwxyzwxyzwxyzwxyz", "efghefghefghefghefgh", "mnopmnopmnopmnop", "abcdabcdabcd");
+        x.train(0, 1, 4, 80);
+        dictionary("four", x, 0, "abcdmnopefghwxyz");
+        x.forget();
+        samples(x, "abcdefgh", "abcdefgh", "wxyz");
+        // 22 bytes with all, 18 without mnop; without wxyz 21, which is more than 18
+        check.due("one goes", x.trim(0), 1);
+        dictionary("three are left", x, 0, "abcdefghwxyz");
     }
 
     private void trimmingAllOrNone() {
