@@ -24,13 +24,19 @@ public final class FaceTest {
     };
     private static final String[] FORBIDDEN = {
         "->", "::", "\\bcatch\\b", "\\btry\\b", "\\bfinally\\b", "\\bsynchronized\\b", "\\bassert\\b", "\\bObject\\b",
-        "\\bnew\\s+\\w+(<.*>)?\\(.*\\)\\s*\\{", "\\bprotected\\b", "\\bSystem\\.(?!arraycopy)", "Exact\\(",
+        "\\bnew\\s+\\w+(<.*>)?\\(.*\\)\\s*\\{", "\\bprotected\\b", "\\bSystem\\.(?!arraycopy)",
+        "\\bArrays\\.(?!copyOf\\b|copyOfRange\\b|fill\\b)", "Exact\\(", "\\bstatic\\s*\\{", "\\bpackage\\b",
+        "\\bthrow\\b(?! new (NullPointer|ArrayIndexOutOfBounds|Arithmetic)Exception\\(\"\"\\);)",
     };
+    private static final int CLASS_LIMIT = 12;
+    private static final int FIELD_LIMIT = 20;
+    private static final int PARAMETER_LIMIT = 7;
 
     public static void main(String[] args) throws IOException {
         Check check = new Check();
         members(check);
         constants(check);
+        nestedClasses(check);
         source(check, Files.readString(Path.of("src/main/java/TrainedSegments.java")));
         check.end("FaceTest");
     }
@@ -76,9 +82,6 @@ public final class FaceTest {
         Map<String, Integer> open = new TreeMap<>();
         for (Field f : TrainedSegments.class.getDeclaredFields()) {
             int m = f.getModifiers();
-            if (Modifier.isStatic(m)) {
-                check.due(f.getName() + " is final", String.valueOf(Modifier.isFinal(m)), "true");
-            }
             if (!Modifier.isPrivate(m)) {
                 check.due(f.getName(), m, Modifier.PUBLIC | Modifier.STATIC | Modifier.FINAL);
                 open.put(f.getName(), valueOf(f));
@@ -95,6 +98,36 @@ public final class FaceTest {
         }
     }
 
+    private static void nestedClasses(Check check) {
+        Class<?>[] nested = TrainedSegments.class.getDeclaredClasses();
+        atMost(check, "classes", 1 + nested.length, CLASS_LIMIT);
+        sizes(check, TrainedSegments.class);
+        for (Class<?> c : nested) {
+            check.due(c + " is private, static, final", c.getModifiers(),
+                    Modifier.PRIVATE | Modifier.STATIC | Modifier.FINAL);
+            check.due(c + " has no class inside", c.getDeclaredClasses().length, 0);
+            sizes(check, c);
+        }
+    }
+
+    private static void sizes(Check check, Class<?> c) {
+        int fields = 0;
+        for (Field f : c.getDeclaredFields()) {
+            boolean isStatic = Modifier.isStatic(f.getModifiers());
+            fields += isStatic ? 0 : 1;
+            check.due(f + ", if static, is an int and final",
+                    !isStatic || f.getType() == int.class && Modifier.isFinal(f.getModifiers()) ? "" : "no", "");
+        }
+        atMost(check, "fields of " + c, fields, FIELD_LIMIT);
+        for (Method m : c.getDeclaredMethods()) {
+            atMost(check, "parameters of " + m, m.getParameterCount(), PARAMETER_LIMIT);
+        }
+    }
+
+    private static void atMost(Check check, String what, int got, int limit) {
+        check.due(what + ", above " + limit, Math.max(got, limit), limit);
+    }
+
     private static void source(Check check, String source) {
         String code = source.replaceAll("(?s)/\\*.*?\\*/", "").replaceAll("//.*", "").replaceAll("\"[^\"]*\"", "\"\"");
         for (String pattern : FORBIDDEN) {
@@ -105,6 +138,5 @@ public final class FaceTest {
         while (imports.find()) {
             check.due("import", imports.group(), "import java.util.Arrays;");
         }
-        check.due("a package", String.valueOf(code.contains("package ")), "false");
     }
 }
